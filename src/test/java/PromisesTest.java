@@ -140,6 +140,18 @@ public final class PromisesTest {
         due("of(1, 1)", x.of(1, 1), 1);
         due("undo()", x.undo(), 3);
         due("of(1, 1)", x.of(1, 1), 3);
+        String[] acts = {"w0,2", "k0,1", "l0,1", "w2,2", "k2,1", "l1,2"};
+        for (String act : acts) {
+            ColorFunctions y = after(act);
+            due("points(3) behind " + act, y.points(3), 3);
+            due("count(5) behind " + act, y.count(5), 2);
+            due("count(2) behind " + act, y.count(2), 3);
+            due("count(1) behind " + act, y.count(1), 0);
+            due("of(0, 0) behind " + act, y.of(0, 0), 0);
+            due("of(2, 0) behind " + act, y.of(2, 0), 0);
+            y.points(3);
+            due("back() behind " + act, y.back(), 1);
+        }
         read(x, "x");
         x.points(2);
         due("why(0, 0)", x.why(0, 0), 1);
@@ -461,7 +473,22 @@ public final class PromisesTest {
         x.keep(2, 0);
         read(x, "n6;P0,5;l0,5");
         due("like(2) of two rings and one", x.like(2), 0);
-        due("count(5) as at the start", x.like(2), 0);
+        read(x, "n4;l0,1;l2,3;l1,2");
+        x.keep(3, 0);
+        read(x, "n4;l0,1;l0,2;l0,3");
+        due("like(3) of as many lines", x.like(3), 0);
+        read(x, "n3;l0,1;w0,2");
+        x.keep(3, 0);
+        read(x, "n3;l0,1;w2,2");
+        due("like(3) of the weight elsewhere", x.like(3), 0);
+        read(x, "n3;l1,2;w2,2");
+        due("like(3) turned over", x.like(3), 1);
+        read(x, "n3;l0,2;w2,2");
+        due("like(3) with the second point alone", x.like(3), 1);
+        read(x, "n2;l0,1");
+        x.keep(3, 0);
+        read(x, "n2");
+        due("like(3) without the line", x.like(3), 0);
     }
 
     private static void same() {
@@ -565,6 +592,13 @@ public final class PromisesTest {
         x.points(4);
         x.keep(3, 1);
         due("plus(1, 3, 0, 0)", x.plus(1, 3, 0, 0), -5);
+        ColorFunctions y = after("n1;w0,3");
+        y.keep(0, 1);
+        due("plus(0, 0, 1, 0)", y.plus(0, 0, 1, 0), 3);
+        due("partOf(1, 0, 0)", y.partOf(1, 0, 0), 2);
+        due("same(1)", y.same(1), 0);
+        due("plus(1, 0, 1, 1)", y.plus(1, 0, 1, 1), 3);
+        due("same(1)", y.same(1), 1);
         due("partOf(0, 0, 2)", x.partOf(0, 0, 2), 1);
         due("plus(1, 1, 2, 0) on a row", x.plus(1, 1, 2, 0), 3);
         for (int i = 0; i < 63; i++) {
@@ -715,6 +749,9 @@ public final class PromisesTest {
         due("fits(0, 0, 0)", x.fits(0, 0, 0), 3);
         due("count(1)", x.count(1), 3);
         due("count(5)", x.count(5), 6);
+        x.put(0, 0, 1);
+        due("fits(0, 1, 0) with a wrong first place", x.fits(0, 1, 0), 0);
+        x.put(0, 0, 0);
         x.put(0, 9, 1);
         due("fits(0, 10, 0)", x.fits(0, 10, 0), 0);
         due("fits(0, 10, 1)", x.fits(0, 10, 1), -2);
