@@ -784,14 +784,21 @@ public final class ColorFunctions {
             }
         }
 
+        /** All to which one of the set has a LINE. */
+        int neighbours(int set) {
+            int all = 0;
+            for (int i = 0; i < n; i++) {
+                if ((set >> i & 1) == 1) {
+                    all |= near[i];
+                }
+            }
+            return all;
+        }
+
         int hanging(int point) {
             int set = 1 << point;
             for (int round = 0; round < n; round++) {
-                for (int i = 0; i < n; i++) {
-                    if ((set >> i & 1) == 1) {
-                        set |= near[i];
-                    }
-                }
+                set |= neighbours(set);
             }
             return set;
         }
@@ -961,11 +968,11 @@ public final class ColorFunctions {
         }
 
         int length(int w, int k) {
-            return length[start[w] + k];
+            return k >= 0 && k < many(w) ? length[start[w] + k] : 0;
         }
 
         int number(int w, int k, int i) {
-            return numbers[start[w] + k][i];
+            return i >= 0 && i < length(w, k) ? numbers[start[w] + k][i] : 0;
         }
 
         private static int unit(int number) {
@@ -992,7 +999,7 @@ public final class ColorFunctions {
             for (int set = 1; set <= all; set++) {
                 hung[set] = hangingSum(set);
             }
-            splitInBlocks(all, 0, 1, to);
+            splitInBlocks(this, all, 0, 1, to, 0);
         }
 
         /** Of each set of POINTS the WEIGHT, and whether it is free of LINES. */
@@ -1024,19 +1031,23 @@ public final class ColorFunctions {
             return sum;
         }
 
-        /** Each call takes at least one of the six POINTS away, so it goes seven deep at most. */
-        private void splitInBlocks(int left, int codeAhead, long times, Function to) {
+        /** Each call takes a POINT away at least, so that none is as deep as there are POINTS. */
+        private static void splitInBlocks(Tables by, int left, int ahead, long times, Function to, int depth) {
             if (left == 0) {
-                int k = search(to.w, codeAhead);
+                int k = by.search(to.w, ahead);
                 if (k >= 0) {
                     to.power[k] += times;
                 }
                 return;
             }
+            if (depth >= MOST_POINTS) {
+                return;
+            }
             int least = left & -left;
             for (int block = left; block > 0; block = (block - 1) & left) {
-                if ((block & least) != 0 && hung[block] != 0) {
-                    splitInBlocks(left ^ block, codeAhead + unit(mass[block]), times * hung[block], to);
+                if ((block & least) != 0 && by.hung[block] != 0) {
+                    int code = ahead + unit(by.mass[block]);
+                    splitInBlocks(by, left ^ block, code, times * by.hung[block], to, depth + 1);
                 }
             }
         }
@@ -1170,7 +1181,7 @@ public final class ColorFunctions {
             int sum = 0;
             for (int sinks = 1; sinks <= all; sinks++) {
                 if (free[sinks] && Integer.bitCount(sinks) == j) {
-                    sum += drained(net, all, sinks);
+                    sum += drained(net, free, all, sinks, 0);
                 }
             }
             return sum;
@@ -1178,24 +1189,22 @@ public final class ColorFunctions {
 
         /**
          * Directions without rings among these POINTS with just these sinks: the sinks of the
-         * rest are no sinks here, so each has a LINE to one. Six deep at most, as each call
-         * takes POINTS away.
+         * rest are no sinks here, so each has a LINE to one. Each call takes a POINT away at
+         * least, so that none is as deep as there are POINTS.
          */
-        private int drained(Net net, int set, int sinks) {
+        private static int drained(Net net, boolean[] free, int set, int sinks, int depth) {
             int rest = set & ~sinks;
             if (rest == 0) {
                 return 1;
             }
-            int reached = 0;
-            for (int i = 0; i < net.n; i++) {
-                if ((sinks >> i & 1) == 1) {
-                    reached |= net.near[i] & rest;
-                }
+            if (depth >= MOST_POINTS) {
+                return 0;
             }
+            int reached = net.neighbours(sinks) & rest;
             int sum = 0;
             for (int next = reached; next > 0; next = (next - 1) & reached) {
                 if (free[next]) {
-                    sum += drained(net, rest, next);
+                    sum += drained(net, free, rest, next, depth + 1);
                 }
             }
             return sum;

@@ -1,8 +1,11 @@
+import java.io.IOException;
 import java.lang.reflect.Constructor;
 import java.lang.reflect.Field;
 import java.lang.reflect.Member;
 import java.lang.reflect.Method;
 import java.lang.reflect.Modifier;
+import java.nio.file.Files;
+import java.nio.file.Path;
 import java.util.ArrayList;
 import java.util.Arrays;
 import java.util.List;
@@ -26,7 +29,7 @@ public final class FaceTest {
         "public static final int BAD", "public static final int NOT", "public static final int FULL",
         "public static final int STATE", "public static final long VOID"};
 
-    public static void main(String[] args) {
+    public static void main(String[] args) throws IOException {
         TreeSet<String> seen = new TreeSet<>();
         TreeSet<String> names = new TreeSet<>();
         for (Method method : ColorFunctions.class.getDeclaredMethods()) {
@@ -55,6 +58,7 @@ public final class FaceTest {
             wrong.add("too much: " + member);
         }
         namesInside(names, wrong);
+        namesInReadme(names, wrong);
         for (String line : wrong) {
             System.out.println(line);
         }
@@ -70,6 +74,16 @@ public final class FaceTest {
 
     private static String told(String member) {
         return member.replace("ColorFunctions.", "");
+    }
+
+    /** README.md tells how to use the class: it names each call (.ci/run starts the tests beside it). */
+    private static void namesInReadme(TreeSet<String> names, List<String> wrong) throws IOException {
+        String readme = Files.readString(Path.of("README.md"));
+        for (String name : names) {
+            if (!readme.contains("`" + name + "(")) {
+                wrong.add("not in README.md: " + name);
+            }
+        }
     }
 
     /** No method that is not of the face, in classes inside either, bears a name of the face. */

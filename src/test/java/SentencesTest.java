@@ -1002,6 +1002,38 @@ public final class SentencesTest {
             due("undo()", x.undo(), 1);
             network(x, "1.0-");
         });
+        sentence("All is as THE IMAGE: how many POINTS.", x -> {
+            did(x, "n4;w1,3;k1,4;P0,3");
+            x.image();
+            due("undo() with nothing otherwise", x.undo(), 4);
+            network(x, "1.0-1 3.4-02 1.0-13 1.0-2");
+            for (String text : new String[] {"n1", "n6;S0,5", "u0,1;k1,0;w1,1", "j1,0;j0,1", "n4;P0,3;w1,3"}) {
+                did(x, text);
+                due("undo() behind " + text, x.undo(), 4);
+                network(x, "1.0-1 3.4-02 1.0-13 1.0-2");
+                due("count(5)", x.count(5), 0);
+            }
+            parts(x, 0, -1, 2, 1, -2, 0, -1, 1, 0, 0, 0, 0);
+            due("taken(1, 1)", x.taken(1, 1), 3);
+        });
+        sentence("All is as THE IMAGE: .. STATE: there is none.", x -> {
+            x.line(0, 1, 1);
+            due("undo()", x.undo(), -5);
+            x.keep(0, 0);
+            x.points(2);
+            x.lay(0);
+            x.back();
+            due("undo(), what lies on a SHELF is no IMAGE", x.undo(), -5);
+            due("count(5)", x.count(5), 2);
+            network(x, "1.0- 1.0-");
+            x.image();
+            for (int i = 0; i < 3; i++) {
+                x.points(5);
+                due("undo(), THE IMAGE is there still", x.undo(), 2);
+                x.back();
+                due("undo() behind back()", x.undo(), 2);
+            }
+        });
     }
 
     private static void bodies() {
@@ -1079,6 +1111,37 @@ public final class SentencesTest {
             due("trace(24)", x.trace(24), -2);
             due("trace(MOST)", x.trace(MOST), -2);
             due("trace(LEAST)", x.trace(LEAST), -2);
+        });
+        sentence("THE TRACE: .. in the latest act() that was not BAD, by undo() too", x -> {
+            x.kind(0, 2);
+            x.image();
+            due("undo()", x.undo(), 3);
+            traced(x);
+            x.act(0, 2, 5);
+            x.points(6);
+            due("undo(), act() behind image()", x.undo(), 3);
+            traced(x, 30, 1);
+            x.image();
+            x.act(1, 0, 5);
+            x.points(1);
+            due("undo(), act() of a POINT that went", x.undo(), 3);
+            traced(x, 10);
+            x.act(0, 0, 5);
+            traced(x, 20, 10);
+        });
+        sentence("THE TRACE: .. in the latest act() that was not BAD, whatever else is called behind it", x -> {
+            x.kind(0, 4);
+            x.act(0, 1, 3);
+            did(x, "n4;k0,1;w0,2;P0,3;j0,1;u0,1");
+            x.keep(0, 0);
+            x.points(2);
+            x.lay(0);
+            x.back();
+            x.taken(0, 0);
+            x.wipe();
+            read(x, "n0");
+            x.image();
+            traced(x, 11, 50, 30, 1, 51, 20, 10);
         });
     }
 
